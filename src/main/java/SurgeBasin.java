@@ -1226,8 +1226,12 @@ public final class SurgeBasin {
             return hasCell(k) && hasCell(k + 1);
         }
 
-        boolean hasWall(int k) {
-            return (walls >> k & 1) == 1;
+        // Where there is a wall, or no next cell, the opening of 0 keeps the flow at 0.
+        int openingBehind(int k) {
+            if (!hasWallPlace(k) || (walls >> k & 1) == 1) {
+                return 0;
+            }
+            return Math.min(depths[k], depths[k + 1]);
         }
 
         void raiseWall(int k) {
@@ -1315,8 +1319,9 @@ public final class SurgeBasin {
         int pushAt(int second) {
             int sum = 0;
             for (int i = 0; i < sets && i < MOST_SETS; i++) {
-                int beat = Math.max(1, beats[i]);
-                sum += second % beat < beat / 2 ? pushes[i] : -pushes[i];
+                if (beats[i] > 0) {
+                    sum += second % beats[i] < beats[i] / 2 ? pushes[i] : -pushes[i];
+                }
             }
             return sum;
         }
@@ -1376,7 +1381,8 @@ public final class SurgeBasin {
         }
 
         int strain() {
-            return tightness * Math.max(0, Math.abs(place) - slack);
+            int beyond = (place < 0 ? -place : place) - slack;
+            return beyond > 0 ? tightness * beyond : 0;
         }
 
         void ride(int flows, int second) {
@@ -1467,6 +1473,7 @@ public final class SurgeBasin {
         final Swell swell = new Swell();
         final int[] heights = new int[MOST_CELLS];
         final int[] flows = new int[MOST_CELLS];
+        final int[] openings = new int[MOST_CELLS];
         final int[] highest = new int[MOST_CELLS];
         final int[] lowest = new int[MOST_CELLS];
         int second = 0;
@@ -1480,6 +1487,7 @@ public final class SurgeBasin {
                 flows[i] = 0;
                 highest[i] = 0;
                 lowest[i] = 0;
+                openings[i] = basin.openingBehind(i);
             }
         }
 
@@ -1495,6 +1503,7 @@ public final class SurgeBasin {
             second = other.second;
             System.arraycopy(other.heights, 0, heights, 0, MOST_CELLS);
             System.arraycopy(other.flows, 0, flows, 0, MOST_CELLS);
+            System.arraycopy(other.openings, 0, openings, 0, MOST_CELLS);
             System.arraycopy(other.highest, 0, highest, 0, MOST_CELLS);
             System.arraycopy(other.lowest, 0, lowest, 0, MOST_CELLS);
         }
@@ -1507,11 +1516,8 @@ public final class SurgeBasin {
 
         private void stream() {
             for (int i = 0; i < basin.cells - 1 && i < MOST_CELLS - 1; i++) {
-                if (!basin.hasWall(i)) {
-                    int lesser = Math.min(basin.depths[i], basin.depths[i + 1]);
-                    int flow = flows[i] + (heights[i] - heights[i + 1]) * lesser / 16;
-                    flows[i] = flow - flow * basin.rub / 64;
-                }
+                int flow = flows[i] + (heights[i] - heights[i + 1]) * openings[i] / 16;
+                flows[i] = flow - flow * basin.rub / 64;
             }
         }
 
