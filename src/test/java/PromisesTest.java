@@ -182,6 +182,8 @@ public final class PromisesTest {
         begin(7);
         row(0, 3, 4);
         tells("mean of 3, 4", x.mean(0), 1, 3);
+        row(0, 9);
+        tells("mean of one", x.mean(0), 1, 9);
         row(0, -3, -4);
         tells("mean of -3, -4", x.mean(0), 1, -3);
         row(0, HIGH, HIGH, HIGH);
@@ -520,6 +522,7 @@ public final class PromisesTest {
         x.ship(2, 0, 1, 1, 0, 1);
         due("she was missing as it was begun", x.rides(2, 0), STATE);
         asItWasBegun();
+        justStrongEnough();
     }
 
     // A NIGHT goes by what was there when it was begun, whatever comes to be there later.
@@ -538,6 +541,23 @@ public final class PromisesTest {
         tells("a SHIP that left", x.rides(0, 0), 1, 7);
         tells("a SHIP that is another one", x.rides(1, 0), 1, 9);
         due("no such CELL of this NIGHT", x.cell(3, 0), FINDING);
+    }
+
+    // The first ship above, whose STRAIN is 6 behind second 2.
+    private static void justStrongEnough() {
+        begin(20);
+        harbour(0, "c3 m0:8 r0");
+        sea(0, "p10:32");
+        x.ship(0, 1, 1, 2, 0, 6);
+        x.ship(1, 1, 1, 2, 0, 5);
+        x.night(0, 0);
+        x.go(3);
+        tells("STRAIN is as great as STRENGTH", x.rides(0, 3), 1, NONE);
+        tells("STRAIN is above STRENGTH", x.rides(1, 3), 1, 2);
+        x.go(1);
+        tells("STRAIN of 7 times 2", x.rides(0, 2), 1, 14);
+        tells("now it is above", x.rides(0, 3), 1, 3);
+        tells("PARTED in the first one", x.rides(1, 3), 1, 2);
     }
 
     private static void spentNights() {
@@ -730,8 +750,22 @@ public final class PromisesTest {
         finds(found(NOTHING), "no such SEA", x.mark(1, 1, 0, 0, 1), NOTHING);
         finds(found(BEYOND), "no such SET", x.mark(1, 0, 2, 0, 1), BEYOND);
         finds(found(NOUGHT), "NOUGHT ahead of UNLIKE", x.mark(0, 3, 0, 0, 3), NOUGHT);
-        harbour(2, "c3 m0:9");
-        due("DYING at last", x.kind(0, 2, 0, 0), 5);
+        dying("c11m1:5r1", 3, 300);
+        dying("c12m11:9r7", 11, 1);
+        dying("c5d0:5d4:9d2:5d3:5d1:6m1:1r0", 3, 271);
+        dying("c13m1:4r1", 8, 277);
+        dying("c4m1:1r1", 1, 133);
+        harbour(2, "c7d0:6d4:7m0:4r1");
+        due("loud behind SECOND 301: not DYING", x.kind(0, 2, 4, 0), 1);
+        finds(found(UNLIKE), "loud behind SECOND 301", x.mark(0, 2, 4, 0, 5), UNLIKE);
+    }
+
+    // The first is loud just long enough; the third, the fourth are at 100, at -100 among the last HEIGHTS; the last
+    // one is 101 when it is loud for the last time.
+    private static void dying(String text, int cell, int last) {
+        harbour(2, text);
+        due(text + " is DYING", x.kind(0, 2, cell, 0), 5);
+        due(text + " is last loud", x.mark(0, 2, cell, 0, 5), last);
     }
 
     private static void waking() {
@@ -802,12 +836,17 @@ public final class PromisesTest {
         tells("alike ones: the least", x.tight(0, 1, 0), 1, 0);
         tells("she stays as she is", x.pull(0, 0, 0), 108, 14);
 
+        harbour(2, "c6m2:3");
+        sea(2, "p33:31");
+        x.ship(0, 3, 3, 1, 0, 50);
+        tells("the tightest", x.tight(0, 2, 2), 9, 54);
+
         promise = 36;
         x.ship(0, 15, 2, 3, 5, 60);
         tells("where(0, 0, 0), from wherever", x.where(0, 0, 0), 0, 108);
         tells("alike ones: the first", x.where(0, 1, 0), 0, 0);
-        finds(3, "no such HARBOUR", x.where(0, 2, 0), NOTHING);
-        due("no such SHIP", x.where(2, 2, 0), STATE);
+        finds(3, "no such HARBOUR", x.where(0, 3, 0), NOTHING);
+        due("no such SHIP", x.where(2, 3, 0), STATE);
         due("where(3, ..)", x.where(3, 0, 0), BAD);
         due("where(.., 4, ..)", x.where(0, 4, 0), BAD);
     }
@@ -831,8 +870,10 @@ public final class PromisesTest {
         tells("the second one", x.at(3, 1), 1, 5);
         due("a CELL for each SHIP", x.at(3, 2), FINDING);
         x.leave(0);
-        x.ship(2, 9, 2, 3, 5, 60);
         row(3, 7, 7, 7, 7, 7);
+        tells("one SHIP", x.tonight(1, 0, 3), 0, 0);
+        holds("one CELL", 3, 0);
+        x.ship(2, 9, 2, 3, 5, 60);
         tells("still water", x.tonight(1, 0, 3), 0, 0);
         holds("alike ones: the first, each at another CELL", 3, 0, 1);
         x.ship(0, 0, 1, 1, 1, 1);
@@ -922,6 +963,10 @@ public final class PromisesTest {
         finds(1, "no such SEA", x.does(0, 1, 0), NOTHING);
         x.back(0);
         due("a WORK that went", x.does(0, 0, 1), BAD);
+        x.work(4, 1, 9, 1);
+        x.work(4, 2, 5, 2);
+        doneAs("two deeper, 9 at most", 3, "c5 d1:9 d2:9 w3 m1:4", 3);
+        x.back(0);
         x.work(5, 2, 9, 99);
         x.work(3, 0, 9, 99);
         x.work(0, 4, 0, 99);
@@ -1005,6 +1050,9 @@ public final class PromisesTest {
         tells("not the first, but the least", x.which(0, 0, 0), 2, 0);
         row(0, 0, 1, -1);
         tells("the least OFF", x.which(0, 0, 0), 1, 2);
+        row(0, 3);
+        tells("a ROW of one", x.which(0, 0, 0), 1, 3);
+        row(0, 0, 1, -1);
         finds(1, "no such HARBOUR", x.which(1, 0, 0), NOTHING);
         finds(2, "no such ROW", x.which(0, 0, 1), NOTHING);
         due("which(4, ..)", x.which(4, 0, 0), BAD);
@@ -1016,8 +1064,9 @@ public final class PromisesTest {
         finds(0, "BEYOND ahead of UNLIKE", x.which(0, 3, 1), BEYOND);
         finds(0, "too great", x.which(0, 0, 1), UNLIKE);
         row(1, 0, -10001);
+        tells("once more", x.which(0, 0, 0), 1, 2);
         finds(1, "too low", x.which(0, 0, 1), UNLIKE);
-        due("refused, asked() stays", x.asked(), 0);
+        due("refused, asked() stays", x.asked(), 2);
     }
 
     private static void since() {
