@@ -541,7 +541,7 @@ public final class SurgeBasin {
     }
 
     private int kindOfRing(int harbour, int cell) {
-        if (!isHarbour(harbour)) {
+        if (!isHarbour(harbour) || !isCell(cell)) {
             return BAD;
         }
         if (!harbours[harbour].there) {

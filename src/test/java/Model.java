@@ -745,8 +745,8 @@ final class Model {
     int kind(int which, int a, int b, int c) {
         bad(out(which, 0, 2));
         if (which == 0) {
-            bad(out(a, 0, 3));
-            find(out(b, 0, harbourAt(a).depth.length - 1), 2);
+            bad(out(a, 0, 3) || out(b, 0, 15));
+            find(b >= harbourAt(a).depth.length, 2);
             int[] ring = ringOf(harbours[a], b);
             find(cutBeat(ring) < 0, 4);
             boolean dying = Arrays.stream(ring, 300, 400).allMatch(h -> h >= -100 && h <= 100);

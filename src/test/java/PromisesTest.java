@@ -719,11 +719,14 @@ public final class PromisesTest {
         due("kind(2, 3, ..)", x.kind(2, 3, 0, 0), BAD);
         finds(0, "no such SEA", x.kind(1, 1, 9, 0), NOTHING);
         finds(0, "no such CELL", x.kind(0, 0, 6, 0), BEYOND);
-        finds(1, "a CELL that is none", x.kind(0, 0, 16, 0), BEYOND);
-        finds(2, "a CELL below 0", x.kind(0, 0, -1, 0), BEYOND);
-        finds(3, "no such SET", x.kind(1, 0, 2, 0), BEYOND);
-        finds(4, "a SET that is none", x.kind(1, 0, LOW, 0), BEYOND);
+        finds(1, "the last number of a CELL", x.kind(0, 0, 15, 0), BEYOND);
+        due("a CELL above 15", x.kind(0, 0, 16, 0), BAD);
+        due("a CELL below 0", x.kind(0, 0, -1, 0), BAD);
+        finds(2, "no such SET", x.kind(1, 0, 2, 0), BEYOND);
+        finds(3, "a SET that is none", x.kind(1, 0, LOW, 0), BEYOND);
+        finds(4, "a SET far above", x.kind(1, 0, 16, 0), BEYOND);
         marks();
+        numbersThatAreNone();
     }
 
     private static void marks() {
@@ -758,6 +761,25 @@ public final class PromisesTest {
         harbour(2, "c7d0:6d4:7m0:4r1");
         due("loud behind SECOND 301: not DYING", x.kind(0, 2, 4, 0), 1);
         finds(found(UNLIKE), "loud behind SECOND 301", x.mark(0, 2, 4, 0, 5), UNLIKE);
+    }
+
+    // A CELL's numbers are 0 .. 15, and another one is BAD ahead of NOTHING; a SET's are not told, so NOTHING is first.
+    private static void numbersThatAreNone() {
+        begin(29);
+        due("a CELL below 0 of no HARBOUR", x.kind(0, 0, -1, 0), BAD);
+        due("a CELL above 15 of no HARBOUR", x.kind(0, 0, 16, 0), BAD);
+        due("no FINDING with BAD", x.finding(), 0);
+        finds(0, "a CELL 15 of no HARBOUR", x.kind(0, 0, 15, 0), NOTHING);
+        finds(1, "a SET that is none of no SEA", x.kind(1, 0, -1, 0), NOTHING);
+        begin(30);
+        due("a CELL below 0 of no HARBOUR", x.mark(0, 0, -1, 0, 1), BAD);
+        due("a CELL above 15 of no HARBOUR", x.mark(0, 0, 16, 0, 1), BAD);
+        due("no FINDING with BAD", x.finding(), 0);
+        finds(0, "a CELL 15 of no HARBOUR", x.mark(0, 0, 15, 0, 1), NOTHING);
+        finds(1, "a SET that is none of no SEA", x.mark(1, 0, -1, 0, 2), NOTHING);
+        harbour(0, "c6");
+        due("a CELL above 15, ahead of UNLIKE", x.mark(0, 0, 16, 0, 2), BAD);
+        finds(0, "no such CELL", x.mark(0, 0, 15, 0, 2), BEYOND);
     }
 
     // The first is loud just long enough; the third, the fourth are at 100, at -100 among the last HEIGHTS; the last
