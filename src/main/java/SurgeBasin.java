@@ -1223,7 +1223,7 @@ public final class SurgeBasin {
         }
 
         boolean hasWallPlace(int k) {
-            return hasCell(k) && hasCell(k + 1);
+            return k >= 0 && k < cells - 1 && k < MOST_CELLS - 1;
         }
 
         // Where there is a wall, or no next cell, the opening of 0 keeps the flow at 0.
