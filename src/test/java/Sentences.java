@@ -184,6 +184,40 @@ class Sentences {
         holds(5, heights);
     }
 
+    /**
+     * A NIGHT under way is no other behind the call, nor is what it goes on to. There are HARBOUR, SEA, SHIP, WORK and
+     * ROW 0; the call comes once ahead, so that a ROW that it fills is the same already.
+     */
+    void nightStays(String name, int... a) {
+        harbour(0, "c8 m3:2 r2");
+        sea(0, "p9:70p25:40");
+        call("ship", 0, 3, 2, 3, 5, 60);
+        call("work", 3, 0, 1, 9);
+        row(0, 1, 2, 3);
+        call("night", 0, 0);
+        call("go", 50);
+        call(name, a);
+        call("keep", 1);
+        call("go", 50);
+        long then = rangesAndDigest();
+        call("on", 1);
+        long now = rangesAndDigest();
+        due(told(name, a) + " is refused", call(name, a) < 0 ? 1 : 0, 0);
+        due(told(name, a) + " leaves the NIGHT", rangesAndDigest(), now);
+        answers(50, "count", 4);
+        answers(100, "go", 50);
+        due(told(name, a) + " leaves what comes of it", rangesAndDigest(), then);
+    }
+
+    private long rangesAndDigest() {
+        long h = call("digest");
+        for (int k = 0; k < 8; k++) {
+            call("cell", k, 2);
+            h = 31 * h + call("asked");
+        }
+        return h;
+    }
+
     static int[] filled(int n, int v) {
         int[] all = new int[n];
         Arrays.fill(all, v);
