@@ -213,6 +213,10 @@ public final class EdgesOfBeatsTest extends Sentences {
         sentence(28, "her places behind 400 SECONDS: the last one counts");
         call("ship", 0, 0, 1, 1, 1, 1);
         tellsFraction(31, 13, 1, "roll", 0);
+        sentence(28, "her place SLACK and 100 at first: not 99, not 101");
+        // from 99 it were 384/26, from 101 379/26
+        call("ship", 0, 0, 1, 1, 7, 1);
+        tellsFraction(27, 190, 13, "roll", 0);
         sentence(28, "her place SLACK and 100 at first: the heaviest SHIP, slack lines");
         call("ship", 0, 0, 9, 1, 24, 1);
         tellsFraction(7, 52, 1, "roll", 0);

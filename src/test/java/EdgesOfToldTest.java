@@ -423,6 +423,16 @@ public final class EdgesOfToldTest extends Sentences {
         call("ship", 0, 1, 1, 2, 0, 5);
         answers(mixed(of(1, 1, 1, 0, 3, 0, 0, 1), harbour, THREE, sea, THREE, of(1, 1, 2, 0, 5, -1, -1), of(23, 8, 11, 1,
                 1, 0), of(3, 2, 6, 2), SIX, THREE, of(0)), "digest");
+        sentence(52, "of each SHIP of it rides() 0 to 3: the first and the last one");
+        harbour(0, "c3 m0:8 r0");
+        sea(0, "p10:32");
+        call("text", 3, 0);
+        call("ship", 0, 1, 1, 2, 0, 5);
+        call("ship", 2, 0, 1, 2, 30, 5);
+        call("night", 0, 0);
+        call("go", 3);
+        answers(mixed(of(1, 1, 2, 0, 3, 0, 0, 1), harbour, THREE, sea, THREE, of(1, 1, 2, 0, 5, -1, 0, 1, 2, 30, 5),
+                of(23, 8, 11, 1, 1, 0), of(3, 2, 6, 2), of(4, 3, 0, NONE), SIX, THREE, of(0)), "digest");
         sentence(52, "a kept NIGHT is told by count() 5 alone");
         harbour(0, "c3 m0:8 r0");
         sea(0, "p10:32");

@@ -14,6 +14,7 @@ public final class EdgesOfWakingTest extends Sentences {
         t.tonightRefused();
         t.tonight();
         t.tonightAlike();
+        t.again();
         t.oddsRefused();
         t.odds();
         t.end();
@@ -441,6 +442,49 @@ public final class EdgesOfWakingTest extends Sentences {
         }
         tells(0, 0, "tonight", 0, 0, 0);
         holds(0, 3, 4, 5);
+    }
+
+    // What a call has woken leaves nothing to the next one.
+    private void again() {
+        sentence(35, "woken: the same, whatever was woken ahead of it");
+        wakeAll();
+        tells(1, 32, "tight", 0, 0, 0);
+        tells(1, 32, "tight", 0, 0, 0);
+        sentence(36, "woken: the same, whatever was woken ahead of it");
+        wakeAll();
+        long cell = call("where", 0, 0, 0);
+        long pull = call("asked");
+        anew();
+        harbour(0, "c4");
+        sea(0, "p9:29");
+        call("ship", 0, 3, 1, 6, 2, 76);
+        tells(cell, pull, "where", 0, 0, 0);
+        tells(cell, pull, "where", 0, 0, 0);
+        sentence(34, "woken: the same, whatever was woken ahead of it");
+        wakeAll();
+        pull = call("pull", 0, 0, 0);
+        anew();
+        harbour(0, "c4");
+        sea(0, "p9:29");
+        call("ship", 0, 3, 1, 6, 2, 76);
+        answers(pull, "pull", 0, 0, 0);
+        answers(pull, "pull", 0, 0, 0);
+    }
+
+    private void wakeAll() {
+        harbour(0, "c4");
+        harbour(1, "c16 m9:9");
+        sea(0, "p9:29");
+        sea(1, "p20:99");
+        for (int s = 0; s < 3; s++) {
+            call("ship", s, 3, 1, 6, 2, 76);
+        }
+        call("tonight", 1, 1, 0);
+        call("quiet", 1, 1);
+        call("where", 1, 1, 1);
+        call("tight", 1, 1, 1);
+        call("odds", 1, 1);
+        call("ring", 1, 9);
     }
 
     private void oddsRefused() {

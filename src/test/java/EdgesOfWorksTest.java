@@ -229,6 +229,13 @@ public final class EdgesOfWorksTest extends Sentences {
         tells(deep, 1, "does", 0, 0, 1);
         tells(deep, 2, "does", 0, 0, 2);
         tells(deep, 4, "does", 0, 0, 4);
+        sentence(41, "4 CELL k is deeper by v (9 at most): two CELLS side by side");
+        harbour(0, "c5 m1:4");
+        sea(0, SEA);
+        call("work", 4, 1, 6, 1);
+        call("work", 4, 2, 9, 2);
+        harbour(1, "c5 d1:9 d2:9 m1:4");
+        tells(call("quiet", 1, 0), 3, "does", 0, 0, 3);
         sentence(41, "5 shallower (1 at least): just 1, more than that");
         harbour(0, "c5 d2:6 m1:4");
         sea(0, SEA);
